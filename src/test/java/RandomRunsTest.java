@@ -2,7 +2,7 @@ import java.util.Random;
 
 /** Runs of calls drawn by fixed seeds: the class answers as the slow model does. */
 public final class RandomRunsTest {
-    private static final int RUNS = 1500, CALLS = 512;
+    private static final int RUNS = 1500, CALLS = 512, TEXTS = 30000;
     private final Check check = new Check("RandomRunsTest");
     private Random random;
     private FlexedFaces x;
@@ -15,7 +15,33 @@ public final class RandomRunsTest {
         for (int run = 0; run < RUNS; run++) {
             test.oneRun(run);
         }
+        test.texts();
         test.check.end();
+    }
+
+    /** Texts with one sign or figure changed, each read by a new object. */
+    private void texts() {
+        random = new Random(TEXTS);
+        for (int k = 0; k < TEXTS; k++) {
+            x = new FlexedFaces();
+            m = new Model();
+            String text = random.nextInt(3) == 0 ? badText() : withAnotherFigure(goodText());
+            for (int at = 0; at < text.length(); at++) {
+                x.feed(text.charAt(at));
+                m.feed(text.charAt(at));
+            }
+            due("strip " + text, x.strip(), m.strip());
+            due("count(0) " + text, x.count(0), m.count(0));
+        }
+    }
+
+    private String withAnotherFigure(String good) {
+        StringBuilder text = new StringBuilder(good);
+        int place = text.indexOf(";") + 1 + random.nextInt(text.length() - text.indexOf(";") - 1);
+        if (Character.isDigit(text.charAt(place))) {
+            text.setCharAt(place, (char) ('0' + random.nextInt(10)));
+        }
+        return text.toString();
     }
 
     private void due(String call, long got, long want) {
