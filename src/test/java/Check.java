@@ -1,6 +1,7 @@
 /** Counts the answers that are not as due, and feeds texts. */
 final class Check {
     private final String name;
+    private String sentence = "";
     private int wrong = 0;
     private int asked = 0;
 
@@ -8,11 +9,16 @@ final class Check {
         this.name = name;
     }
 
+    /** The document's words by which the next answers are due. */
+    void says(String words) {
+        sentence = " \"" + words + "\"";
+    }
+
     void due(String call, long got, long want) {
         asked++;
         if (got != want) {
             wrong++;
-            System.out.println(name + ": " + call + " answered " + got + ", due is " + want);
+            System.out.println(name + sentence + ": " + call + " answered " + got + ", due is " + want);
         }
     }
 
