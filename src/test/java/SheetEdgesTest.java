@@ -482,6 +482,9 @@ public final class SheetEdgesTest {
         // RIGHT brings nothing in both, LEFT 2 in one, 3 in the other
         told(x, 2, 1, 1, 0, 1);
         told(x, 2, 1, 0, 1, 0);
+        // behind all that: the same, turned to 0 1, turned to 1 0
+        told(x, 2, 1, 1, 1, 0, 2, 0);
+        told(x, 2, 1, 0, 0, 1, 2, 1);
         // one alone: like ones
         told(x, 1, 1, 0, 0, 2);
         FlexedFaces eight = Check.of(Texts.fanned(8, "p01", "01"));
