@@ -24,6 +24,7 @@ public final class ForetoldEdgesTest {
         wayThatComesFirst();
         wayAsNow();
         tourOfSomeRings();
+        tourOfTheMost();
         tourThatIsOne();
         tourNone();
         roundRefused();
@@ -265,6 +266,20 @@ public final class ForetoldEdgesTest {
         due("tour() of three", Check.of("xp09,p09,p09;-;01").tour(), 2);
         due("tour() of four", Check.of("xp09,p09,p09,p09;02;02").tour(), 4);
         due("tour() of eight", Check.of("xb09,b99,s19,t29,g39,p49,p59,p69;13,17,37,35,57;17").tour(), 14);
+    }
+
+    /** Found by a search of its own over all FOLDINGS of eight, all that can be TORN, all FRONTS and BACKS. */
+    private static void tourOfTheMost() {
+        CHECK.says("TOUR: the fewest MOVES");
+        due("tour() of most to look at", Check.of("xs09,s09,s09,s09,s09,s09,s09,s09;02,04,06,24,46;04").tour(), 15);
+        FlexedFaces x = Check.of("xp01,s09,s09,s09,s09,s09,s09,s09;02,03,04,05,57;70");
+        for (int k = 0; k < 3; k++) {
+            x.flex(1);
+        }
+        due("FRONT again", x.count(1), 7);
+        due("BACK again", x.count(2), 0);
+        due("TORN", x.count(5), 1);
+        due("tour(), the longest there is", x.tour(), 20);
     }
 
     private static void tourThatIsOne() {
