@@ -1,44 +1,77 @@
-import java.lang.reflect.Member;
+import java.lang.reflect.Field;
 import java.lang.reflect.Method;
 import java.lang.reflect.Modifier;
 import java.nio.file.Files;
 import java.nio.file.Path;
 import java.util.Arrays;
 import java.util.Set;
+import java.util.StringJoiner;
 import java.util.TreeSet;
 import java.util.regex.Pattern;
 
 /** The public face is the document's and no more, and the source keeps clear of what LANGUAGE.md rules out by name. */
 public final class FaceTest {
     private static final Check CHECK = new Check("FaceTest");
-    private static final String[] METHODS = {"feed 1", "strip 0", "picture 2", "as 2", "brings 1", "flex 1", "turn 0",
-        "refold 2", "mend 1", "undo 0", "image 1", "restore 1", "reach 0", "way 2", "tour 0", "round 1", "hand 4",
-        "duel 1", "decades 3", "sheet 3", "drop 1", "item 4", "copy 5", "log 4", "foldings 5", "kinds 5", "count 1"};
-    private static final String[] CONSTANTS = {"BAD", "NOT", "FULL", "NONE", "NULL", "CAST", "INDEX", "SIZE"};
+    private static final String[] METHODS = {"int feed(int)", "int strip()", "int picture(int, int)",
+        "int as(int, int)", "int brings(int)", "int flex(int)", "int turn()", "int refold(int, int)", "int mend(int)",
+        "int undo()", "int image(int)", "int restore(int)", "int reach()", "int way(int, int)", "int tour()",
+        "int round(int)", "int hand(int, int, int, int)", "int duel(int)", "int decades(int, int, int)",
+        "int sheet(int, int, int)", "int drop(int)", "long item(int, int, int, long)",
+        "int copy(int, int, int, int, int)", "int log(int, int, int, int)", "int foldings(int, int, int, int, int)",
+        "int kinds(int, int, int, int, int)", "int count(int)"};
+    private static final String[] CONSTANTS = {"BAD = -1", "NOT = -2", "FULL = -3", "NONE = -4", "NULL = -11",
+        "CAST = -12", "INDEX = -13", "SIZE = -14"};
     private static final String[] RULED_OUT = {"\\bthrow\\b", "\\btry\\b", "\\bcatch\\b", "\\bsynchronized\\b",
         "\\bassert\\b", "->", "::", "Exact\\b", "\\bprotected\\b", "^package\\b", "\\bimport\\b", "\\bwhile\\b"};
 
     public static void main(String[] args) throws Exception {
-        Set<String> shown = new TreeSet<>();
-        for (Method method : FlexedFaces.class.getDeclaredMethods()) {
-            if (!Modifier.isPrivate(method.getModifiers())) {
-                shown.add(method.getName() + " " + method.getParameterCount());
-            }
-        }
-        same("methods", shown, METHODS);
-        Set<String> fields = new TreeSet<>();
-        for (Member field : FlexedFaces.class.getDeclaredFields()) {
-            if (!Modifier.isPrivate(field.getModifiers())) {
-                fields.add(field.getName());
-            }
-        }
-        same("constants", fields, CONSTANTS);
-        CHECK.due("public constructors", FlexedFaces.class.getConstructors().length, 1);
-        CHECK.due("all constructors", FlexedFaces.class.getDeclaredConstructors().length, 1);
-        CHECK.due("final", Modifier.isFinal(FlexedFaces.class.getModifiers()) ? 1 : 0, 1);
+        methods();
+        constants();
+        constructors();
         innerNames();
         source();
         CHECK.end();
+    }
+
+    private static void methods() {
+        Set<String> shown = new TreeSet<>();
+        for (Method method : FlexedFaces.class.getDeclaredMethods()) {
+            if (!Modifier.isPrivate(method.getModifiers())) {
+                shown.add(signature(method));
+                CHECK.due(method + " is public and nothing else", method.getModifiers(), Modifier.PUBLIC);
+            }
+        }
+        same("methods", shown, METHODS);
+    }
+
+    private static String signature(Method method) {
+        StringJoiner types = new StringJoiner(", ", "(", ")");
+        for (Class<?> type : method.getParameterTypes()) {
+            types.add(type.getName());
+        }
+        return method.getReturnType().getName() + " " + method.getName() + types;
+    }
+
+    private static void constants() throws Exception {
+        Set<String> fields = new TreeSet<>();
+        for (Field field : FlexedFaces.class.getDeclaredFields()) {
+            if (!Modifier.isPrivate(field.getModifiers())) {
+                fields.add(field.getName() + " = " + field.getInt(null));
+                int want = Modifier.PUBLIC | Modifier.STATIC | Modifier.FINAL;
+                CHECK.due(field + " is public static final", field.getModifiers(), want);
+                CHECK.due(field + " is an int", field.getType() == int.class ? 1 : 0, 1);
+            }
+        }
+        same("constants", fields, CONSTANTS);
+    }
+
+    private static void constructors() {
+        CHECK.due("public constructors", FlexedFaces.class.getConstructors().length, 1);
+        CHECK.due("all constructors", FlexedFaces.class.getDeclaredConstructors().length, 1);
+        CHECK.due("numbers it takes", FlexedFaces.class.getConstructors()[0].getParameterCount(), 0);
+        CHECK.due("the class is public and final", FlexedFaces.class.getModifiers(), Modifier.PUBLIC | Modifier.FINAL);
+        CHECK.due("what it stands under: nothing", FlexedFaces.class.getSuperclass() == Object.class ? 1 : 0, 1);
+        CHECK.due("interfaces", FlexedFaces.class.getInterfaces().length, 0);
     }
 
     private static void same(String what, Set<String> got, String[] want) {
@@ -50,7 +83,7 @@ public final class FaceTest {
     private static void innerNames() {
         Set<String> names = new TreeSet<>();
         for (String method : METHODS) {
-            names.add(method.substring(0, method.indexOf(' ')));
+            names.add(method.substring(method.indexOf(' ') + 1, method.indexOf('(')));
         }
         for (Method method : FlexedFaces.class.getDeclaredMethods()) {
             boolean hidden = Modifier.isPrivate(method.getModifiers());
